@@ -835,8 +835,10 @@ public final class CallRoom {
         }
 
         private int nextToGive() {
-            countTakers();
             int best = NONE;
+            if (countTakers() == 0) {
+                return best;
+            }
             int bestRank = 0;
             for (int c = 0; c < calls.size; c++) {
                 if (calls.doing[c] != WAITING || !isTakeable(c)) {
@@ -865,7 +867,8 @@ public final class CallRoom {
             }
         }
 
-        private void countTakers() {
+        private int countTakers() {
+            int all = 0;
             for (int sort = 0; sort < SORTS; sort++) {
                 freeFor[sort] = 0;
                 withRoomFor[sort] = 0;
@@ -876,7 +879,9 @@ public final class CallRoom {
                         withRoomFor[sort]++;
                     }
                 }
+                all += freeFor[sort] + withRoomFor[sort];
             }
+            return all;
         }
 
         private boolean isTakeable(int c) {

@@ -87,6 +87,10 @@ public final class FaceTest {
         while (library.find()) {
             holds(LIBRARY.contains(library.group()), library.group() + " is in the library");
         }
+        for (String line : code.split("\n")) {
+            boolean makes = line.matches(".*\\bnew\\b.*");
+            holds(!makes || line.matches("\\s+(final \\S+ )?\\w+ = new [^;]*;"), "only constructors make rows: " + line);
+        }
         int begun = 0;
         String[] lines = source.split("\n");
         for (int i = 0; i < lines.length; i++) {

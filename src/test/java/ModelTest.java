@@ -33,14 +33,21 @@ public final class ModelTest {
     }
 
     private void run() {
-        int set = random.nextInt(10);
+        boolean full = seed % 5 == 0;
+        int first = full ? 10 : random.nextInt(10);
         boolean same = true;
         int made = 0;
-        for (int i = 0; i < set && same; i++, made++) {
-            same = step(random.nextInt(4) == 0 ? 3 : 0);
+        for (int i = 0; i < first && same; i++, made++) {
+            same = aHelper();
+        }
+        for (int h = 0; h < first && full && same; h++, made++) {
+            same = same(room.duty(h), model.duty(h), "duty", h);
+        }
+        for (int i = 0; i < 205 && full && same; i++, made++) {
+            same = aCall();
         }
         for (; made < CALLS_OF_A_RUN && same; made++) {
-            same = step(-1);
+            same = step();
         }
         if (!same) {
             wrong++;
@@ -86,8 +93,8 @@ public final class ModelTest {
         return got == due;
     }
 
-    private boolean step(int fixed) {
-        int pick = fixed >= 0 ? fixed : few(100);
+    private boolean step() {
+        int pick = few(100);
         if (pick < 3) return aHelper();
         if (pick < 24) return aHelperDoes(pick);
         if (pick < 40) return aCall();

@@ -185,6 +185,7 @@ public final class PromisesTest {
         x.ticks(5000);
         due("over", x.helperOf(0, 0), 1);
         due("free since", x.helperOf(0, 3), 5011);
+        due("shortest", x.pause(0, 1), 5012);
         x.out(0);
         due("out", x.pause(0, 1), -2);
     }
@@ -365,6 +366,8 @@ public final class PromisesTest {
         due("on", x.ring(0, 1), -2);
         x.call(0, 1, 4, 9, 0);
         due("longest", x.ring(2, 5000), 5007);
+        x.call(0, 1, 4, 9, 0);
+        due("shortest", x.ring(3, 1), 8);
         patienceAnewAfterRing();
     }
 
@@ -424,7 +427,8 @@ public final class PromisesTest {
         due("with a change", x.helperOf(0, 3), 4);
         due("with the other", x.helperOf(0, 2), 1);
         due("alone", x.helperOf(0, 1), 1);
-        due("the other", x.pass(1, 2, 5), 0);
+        due("the other, with the least length", x.pass(1, 2, 1), 0);
+        due("length", x.callOf(1, 3), 1);
         due("free", x.helperOf(0, 0), 1);
     }
 
@@ -500,9 +504,22 @@ public final class PromisesTest {
         due("all", x.ticks(19986), 0);
         due("no more", x.ticks(1), -6);
         due("tick", x.count(0), 20000);
+        timeOnIsCutUp();
         orderOfATick();
         takesByRank();
         writtenTogether();
+    }
+
+    private static void timeOnIsCutUp() {
+        int[][] ticksOn = {{1, 2, 3, 4, 5}, {1, 2, 3, 3, 4}, {1, 1, 2, 2, 3}};
+        for (int g = 1; g <= 3; g++) {
+            for (int length = 1; length <= 5; length++) {
+                CallRoom x = room(g);
+                x.call(0, 0, length, 9, 0);
+                x.ticks(1);
+                due("length " + length + ", grade " + g, x.callOf(0, 8), 1 + ticksOn[g - 1][length - 1]);
+            }
+        }
     }
 
     private static void orderOfATick() {
@@ -730,6 +747,7 @@ public final class PromisesTest {
         due("2 by 1: two thirds, cut", x.loss(200, 1), 699050);
         due("100 by 1", x.loss(10000, 1), 1038194);
         due("least load", x.loss(1, 1), 10381);
+        due("most helpers", x.loss(10000, 200), 0);
     }
 
     private static void wanted() {
