@@ -86,6 +86,7 @@ final class Runs {
         sentences++;
         promises.add(Integer.parseInt(sentence.substring(0, sentence.indexOf(' '))));
         List<Step> steps = stepsOf(texts);
+        if (steps.size() >= CALLS_OF_A_ROOM) throw new IllegalArgumentException("too long a run: " + sentence);
         CallRoom room = new CallRoom();
         for (int i = 0; i < steps.size(); i++) {
             int got = steps.get(i).on(room);
